@@ -722,7 +722,7 @@ public final class ThreeMeasures {
         }
     }
 
-    /** All that there is, but THE IMAGE and THE TRACE. STICKS and ROOMS never change, so that an image may share them. */
+    /** All that there is, but THE IMAGE and THE TRACE. STICKS and ROOMS never change, so an image may share them. */
     private static final class State {
         private final int[] signs = new int[MOST_SIGNS];
         private int signCount;
@@ -898,11 +898,11 @@ public final class ThreeMeasures {
             perStep = Room.STEP_WITHOUT;
             int clauses = 0;
             do {
-                if (!isClause()) {
+                if (!takesClause()) {
                     return null;
                 }
                 clauses++;
-            } while (clauses < MOST_CLAUSES && isTaken(';'));
+            } while (clauses < MOST_CLAUSES && takes(';'));
             return place == size ? new Room(board, perStep, Arrays.copyOf(code, codeSize)) : null;
         }
 
@@ -911,7 +911,7 @@ public final class ThreeMeasures {
             return text != null && place < size && place < text.length ? (char) text[place] : 0;
         }
 
-        private boolean isTaken(char sign) {
+        private boolean takes(char sign) {
             if (next() != sign) {
                 return false;
             }
@@ -926,54 +926,46 @@ public final class ThreeMeasures {
             }
         }
 
-        private boolean isClause() {
-            int op;
-            switch (next()) {
-                case 'b':
-                    if (!isWordAndNumber("board ")) {
-                        return false;
-                    }
-                    board = number;
-                    return true;
-                case 's':
-                    if (!isWordAndNumber("step ")) {
-                        return false;
-                    }
-                    perStep = number;
-                    return true;
-                case 'o':
-                    if (!isWordAndNumber("off ")) {
-                        return false;
-                    }
-                    op = OFF;
-                    break;
-                case 'w':
-                    if (!isWordAndNumber("wear ")) {
-                        return false;
-                    }
-                    op = WEAR;
-                    break;
-                default:
-                    return false;
-            }
-            int n = number;
-            if (!isTaken(' ') || !isEither(0)) {
+        private boolean takesClause() {
+            char first = next();
+            if (!takesWordAndNumber(wordOf(first))) {
                 return false;
             }
-            emit(op, n);
+            int n = number;
+            if (first == 'b') {
+                board = n;
+                return true;
+            }
+            if (first == 's') {
+                perStep = n;
+                return true;
+            }
+            if (!takes(' ') || !takesEither(0)) {
+                return false;
+            }
+            emit(first == 'o' ? OFF : WEAR, n);
             return true;
         }
 
-        private boolean isWordAndNumber(String word) {
+        private static String wordOf(char first) {
+            switch (first) {
+                case 'b': return "board ";
+                case 's': return "step ";
+                case 'o': return "off ";
+                default: return "wear ";
+            }
+        }
+
+        private boolean takesWordAndNumber(String word) {
             for (int i = 0; i < word.length(); i++) {
-                if (!isTaken(word.charAt(i))) {
+                if (!takes(word.charAt(i))) {
                     return false;
                 }
             }
-            return isNumber();
+            return takesNumber();
         }
 
-        private boolean isNumber() {
+        private boolean takesNumber() {
             int digit = next() - '0';
             if (digit < 0 || digit > 9) {
                 return false;
@@ -989,47 +981,47 @@ public final class ThreeMeasures {
         }
 
         /** E, with its Ts in a loop of their own; open: how many of ! and ( are. */
-        private boolean isEither(int open) {
+        private boolean takesEither(int open) {
             int terms = 0;
             do {
                 int factors = 0;
                 do {
-                    if (!isFactor(open)) {
+                    if (!takesFactor(open)) {
                         return false;
                     }
                     if (factors > 0) {
                         emit(AND, 0);
                     }
                     factors++;
-                } while (factors < MOST_SIGNS && isTaken('&'));
+                } while (factors < MOST_SIGNS && takes('&'));
                 if (terms > 0) {
                     emit(OR, 0);
                 }
                 terms++;
-            } while (terms < MOST_SIGNS && isTaken('|'));
+            } while (terms < MOST_SIGNS && takes('|'));
             return true;
         }
 
-        private boolean isFactor(int open) {
+        private boolean takesFactor(int open) {
             char sign = next();
             if (sign != '!' && sign != '(') {
-                return isTest();
+                return takesTest();
             }
             if (open >= MOST_OPEN) {
                 return false;
             }
             place++;
             if (sign == '(') {
-                return isEither(open + 1) && isTaken(')');
+                return takesEither(open + 1) && takes(')');
             }
-            if (!isFactor(open + 1)) {
+            if (!takesFactor(open + 1)) {
                 return false;
             }
             emit(NOT, 0);
             return true;
         }
 
-        private boolean isTest() {
+        private boolean takesTest() {
             int letter = LETTERS.indexOf(next());
             if (letter < 0) {
                 return false;
@@ -1040,7 +1032,7 @@ public final class ThreeMeasures {
                 return false;
             }
             place++;
-            if (!isNumber()) {
+            if (!takesNumber()) {
                 return false;
             }
             emit(TEST, Room.packed(letter, sign, number));

@@ -2,7 +2,7 @@ import java.util.Random;
 
 /** Long runs of calls, by fixed seeds, each answer held against PlainMeasures; wrong inputs are among them. */
 public final class ModelTest {
-    private static final int RUNS = 400, CALLS = 512;
+    private static final int RUNS = 400, CALLS = 480;
     private static final String SIGNS = "skvlnw<=>0123456789&|!();; boardstepoffwear";
 
     private final Due due = new Due();
