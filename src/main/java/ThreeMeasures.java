@@ -109,9 +109,9 @@ public final class ThreeMeasures {
         if (n < 0 || n > 9) {
             return BAD;
         }
-        if (one instanceof Told told) {
-            now.sticks[stick] = told.changed(k, n);
-            return told.more(k);
+        if (one instanceof Told toldOne) {
+            now.sticks[stick] = toldOne.changed(k, n);
+            return toldOne.more(k);
         }
         return STATE;
     }
