@@ -1002,22 +1002,26 @@ public final class ThreeMeasures {
             return true;
         }
 
+        /** The ! ahead of an F stay open till it ends, so that what is in its ( counts them too. */
         private boolean takesFactor(int open) {
-            char sign = next();
-            if (sign != '!' && sign != '(') {
-                return takesTest();
+            int nots = 0;
+            while (open + nots < MOST_OPEN && takes('!')) {
+                nots++;
             }
-            if (open >= MOST_OPEN) {
+            if (next() == '(') {
+                if (open + nots >= MOST_OPEN) {
+                    return false;
+                }
+                place++;
+                if (!takesEither(open + nots + 1) || !takes(')')) {
+                    return false;
+                }
+            } else if (!takesTest()) {
                 return false;
             }
-            place++;
-            if (sign == '(') {
-                return takesEither(open + 1) && takes(')');
+            if (nots % 2 == 1) {
+                emit(NOT, 0);
             }
-            if (!takesFactor(open + 1)) {
-                return false;
-            }
-            emit(NOT, 0);
             return true;
         }
 
