@@ -11,6 +11,14 @@ final class Due {
         }
     }
 
+    void text(String call, String got, String want) {
+        looked++;
+        if (!got.equals(want)) {
+            wrong++;
+            System.out.println(call + ": got\n" + got + "due is\n" + want);
+        }
+    }
+
     /** Feeds a text and asks room(). */
     static int read(ThreeMeasures x, String text) {
         for (int i = 0; i < text.length(); i++) {

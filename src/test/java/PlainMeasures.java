@@ -82,7 +82,7 @@ final class PlainMeasures {
         }
         String tape = all.tape;
         all.tape = "";
-        if (ROOM.matcher(tape).matches()) {
+        if (isRoom(tape)) {
             all.rooms.add(tape);
             return all.rooms.size() - 1;
         }
@@ -91,6 +91,10 @@ final class PlainMeasures {
             fault++;
         }
         return -10 - fault;
+    }
+
+    static boolean isRoom(String text) {
+        return ROOM.matcher(text).matches();
     }
 
     private static boolean canGoOn(String text) {
