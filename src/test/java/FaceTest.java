@@ -1,7 +1,12 @@
+import java.io.IOException;
 import java.lang.reflect.Constructor;
 import java.lang.reflect.Field;
 import java.lang.reflect.Method;
 import java.lang.reflect.Modifier;
+import java.nio.file.Files;
+import java.nio.file.Path;
+import java.util.ArrayList;
+import java.util.List;
 import java.util.Set;
 import java.util.TreeSet;
 
@@ -18,7 +23,7 @@ public final class FaceTest {
         "int as(int,int)", "int image()", "int undo()", "int count(int)"
     };
 
-    public static void main(String[] args) {
+    public static void main(String[] args) throws IOException {
         Due due = new Due();
         due.is("NONE", ThreeMeasures.NONE, -1);
         due.is("BAD", ThreeMeasures.BAD, -2);
@@ -58,7 +63,56 @@ public final class FaceTest {
         due.is("constructors", constructors.length, 1);
         due.is("a public constructor without parameters",
             constructors[0].getParameterCount() == 0 && Modifier.isPublic(constructors[0].getModifiers()) ? 1 : 0, 1);
+        for (Class<?> inside : ThreeMeasures.class.getDeclaredClasses()) {
+            due.is("a class inside, private and static: " + inside,
+                inside.getModifiers() & (Modifier.PUBLIC | Modifier.PROTECTED | Modifier.PRIVATE | Modifier.STATIC),
+                Modifier.PRIVATE | Modifier.STATIC);
+        }
+        due.text("the face of the class, line by line",
+            String.join("\n", faceLines("src/main/java/ThreeMeasures.java")) + "\n",
+            String.join("\n", faceLines("../shared/DOC.md")) + "\n");
+        due.text("what stands ahead of the calls", aheadOfCalls(), wantedAheadOfCalls());
         due.end();
+    }
+
+    /** The lines of the class or the document that begin with "public", to the constant's ; or the parameters' end. */
+    private static List<String> faceLines(String file) throws IOException {
+        List<String> lines = new ArrayList<>();
+        for (String line : Files.readAllLines(Path.of(file))) {
+            String bare = line.strip();
+            if (bare.startsWith("public ")) {
+                lines.add(bare.contains("=") ? bare : bare.replaceAll("\\)?( \\{|;)$", ""));
+            }
+        }
+        return lines;
+    }
+
+    /** The "// ---- .." of the class, each with the public methods behind it. */
+    private static String aheadOfCalls() throws IOException {
+        StringBuilder text = new StringBuilder();
+        for (String line : Files.readAllLines(Path.of("src/main/java/ThreeMeasures.java"))) {
+            if (line.startsWith("    // ---- ")) {
+                text.append(line.substring(7)).append(":\n");
+            } else if (line.startsWith("    public ") && text.length() > 0) {
+                text.append(line.replaceAll("^ *public \\w+ (\\w+)\\(.*$", "$1")).append('\n');
+            }
+        }
+        return text.toString();
+    }
+
+    /** As the document has it: "Ahead of the calls `feed`, .. the interface says: ---- rooms, sticks, walls.". */
+    private static String wantedAheadOfCalls() throws IOException {
+        StringBuilder text = new StringBuilder();
+        for (String line : Files.readAllLines(Path.of("../shared/DOC.md"))) {
+            if (line.startsWith("Ahead of the calls ")) {
+                String says = line.substring(line.indexOf("----"), line.length() - 1);
+                text.append(says).append(":\n");
+                for (String call : line.substring(0, line.indexOf(" the interface")).split("`, `|`")) {
+                    text.append(call.startsWith("Ahead") ? "" : call + "\n");
+                }
+            }
+        }
+        return text.toString();
     }
 
     private static String face(Method method) {
